@@ -1,0 +1,211 @@
+import java.util.ArrayList;
+import java.util.List;
+
+/** Promises 54 to 57: undo and the saved state; and that a call that throws changes nothing. */
+public final class UndoTest {
+    public static void main(String[] args) {
+        promise54EachChange();
+        promise54Limit();
+        promise54AfterNewChanges();
+        promise54KeepsInput();
+        promise55UndoCount();
+        promise56And57SaveAndRestore();
+        promise57Everything();
+        throwingCallsChangeNothing();
+        Check.finish();
+    }
+
+    private interface Change {
+        int on(SofaRailway x);
+    }
+
+    private static List<Change> changes() {
+        List<Change> changes = new ArrayList<>();
+        changes.add(x -> x.addBlock(7));
+        changes.add(x -> x.addCushion(7));
+        changes.add(x -> x.link(0, 2));
+        changes.add(x -> x.unlink(2, 3));
+        changes.add(x -> x.putCat(3));
+        changes.add(x -> x.removeCat(1));
+        changes.add(x -> x.addTrain(5, 9));
+        changes.add(x -> x.setGoal(1, 2));
+        changes.add(x -> x.clearGoal(0));
+        changes.add(x -> x.reserve(1, 5));
+        changes.add(x -> x.cancelReservation(0));
+        changes.add(x -> x.rescue(2));
+        changes.add(x -> x.passTicks(9));
+        changes.add(x -> {
+            Sofa.feed(x, "block 3;cat 5;tick 4");
+            return x.execute();
+        });
+        return changes;
+    }
+
+    /** A railway on which each of the changes is possible. */
+    private static SofaRailway rich() {
+        SofaRailway x = Sofa.line(-2, 3, -4, 1, 2, -3, -1, 1);
+        x.addTrain(0, 8);
+        x.addTrain(4, 6);
+        x.addTrain(7, 4);
+        x.putCat(6);
+        x.setGoal(2, 6);
+        x.passTicks(1);
+        x.setGoal(0, 2);
+        x.putCat(1);
+        x.reserve(0, 1);
+        x.save();
+        x.restore();
+        return x;
+    }
+
+    private static void promise54EachChange() {
+        int number = 0;
+        for (Change change : changes()) {
+            SofaRailway x = rich();
+            String before = Sofa.picture(x);
+            Check.same("55 none before change " + number, x.undoCount(), 0);
+            change.on(x);
+            String after = Sofa.picture(x);
+            Check.no("54 change " + number + " changes something", after.equals(before));
+            Check.same("55 one after change " + number, x.undoCount(), 1);
+            Check.same("54 undo of change " + number, x.undo(), 0);
+            Check.same("54 as before change " + number, Sofa.picture(x), before);
+            Check.state("54 nothing left after change " + number, () -> x.undo());
+            change.on(x);
+            Check.same("54 change " + number + " again", Sofa.picture(x), after);
+            number++;
+        }
+    }
+
+    private static void promise54Limit() {
+        SofaRailway x = new SofaRailway();
+        Check.state("54 none", () -> x.undo());
+        for (int block = 1; block <= 9; block++) {
+            x.addBlock(block);
+            Check.same("55 at most 8", x.undoCount(), Math.min(block, 8));
+        }
+        for (int left = 7; left >= 0; left--) {
+            Check.same("54 left", x.undo(), left);
+            Check.same("54 blocks", x.blockCount(), left + 1);
+            Check.same("55 left", x.undoCount(), left);
+        }
+        Check.state("54 no more than 8", () -> x.undo());
+        Check.same("54 the first change stays", x.blockCount(), 1);
+        Check.same("54 its length", x.length(0), 1);
+    }
+
+    private static void promise54AfterNewChanges() {
+        SofaRailway x = new SofaRailway();
+        for (int tick = 1; tick <= 12; tick++) {
+            x.passTicks(tick);
+        }
+        x.undo();
+        x.undo();
+        x.undo();
+        Check.same("55 five left", x.undoCount(), 5);
+        Check.same("54 nine changes are not undone", x.ticks(), 45);
+        x.passTicks(50);
+        Check.same("55 six", x.undoCount(), 6);
+        Check.same("54 undoes the new change", x.undo(), 5);
+        Check.same("54 as before it", x.ticks(), 45);
+        x.passTicks(1);
+        x.passTicks(2);
+        x.passTicks(3);
+        x.passTicks(4);
+        Check.same("55 eight", x.undoCount(), 8);
+        int[] due = {51, 48, 46, 45, 36, 28, 21, 15};
+        for (int i = 0; i < due.length; i++) {
+            Check.same("54 left", x.undo(), 7 - i);
+            Check.same("54 ticks", x.ticks(), due[i]);
+        }
+        Check.state("54 the rest can't be undone", () -> x.undo());
+    }
+
+    private static void promise54KeepsInput() {
+        SofaRailway x = Sofa.of(1, 2);
+        Sofa.feed(x, "bloc");
+        x.undo();
+        Check.same("54 the input stays", x.feed('k'), 5);
+        x.save();
+        x.restore();
+        Check.same("57 the input stays", x.feed(' '), 6);
+        x.feed('3');
+        Check.same("54 and is executed", x.execute(), 1);
+        Check.same("54 into a block", x.length(1), 3);
+    }
+
+    private static void promise55UndoCount() {
+        SofaRailway x = Sofa.of(1, 2);
+        Check.same("55 two", x.undoCount(), 2);
+        Check.argument("55 refused", () -> x.addBlock(0));
+        x.blockCount();
+        x.writeSignals();
+        x.feed('a');
+        x.save();
+        x.isConsistent();
+        Check.argument("55 malformed", () -> x.execute());
+        Check.same("55 still two", x.undoCount(), 2);
+        Check.same("55 undo after a refused call", x.undo(), 1);
+        Check.same("55 one block left", x.blockCount(), 1);
+    }
+
+    private static void promise56And57SaveAndRestore() {
+        SofaRailway x = Sofa.of(1, 2, 3);
+        Check.state("57 nothing saved", () -> x.restore());
+        Check.same("57 keeps the changes", x.undoCount(), 3);
+        Check.same("56 blocks", x.save(), 3);
+        Check.same("56 keeps the changes", x.undoCount(), 3);
+        x.addBlock(4);
+        x.addBlock(5);
+        Check.same("57 blocks", x.restore(), 3);
+        Check.same("57 the blocks are back", x.blockCount(), 3);
+        Check.same("57 no change left", x.undoCount(), 0);
+        Check.state("57 nothing to undo", () -> x.undo());
+        x.addBlock(6);
+        Check.same("57 a change after it", x.undo(), 0);
+        Check.same("57 is undone", x.blockCount(), 3);
+        x.addBlock(7);
+        Check.same("57 stays saved", x.restore(), 3);
+        x.addBlock(8);
+        Check.same("56 in place of it", x.save(), 4);
+        x.undo();
+        Check.same("57 undo does not matter", x.restore(), 4);
+        Check.same("57 the last block", x.length(3), 8);
+        SofaRailway empty = new SofaRailway();
+        Check.same("56 an empty one", empty.save(), 0);
+        empty.addBlock(1);
+        Check.same("57 an empty one", empty.restore(), 0);
+    }
+
+    private static void promise57Everything() {
+        SofaRailway x = rich();
+        String before = Sofa.picture(x);
+        x.save();
+        for (Change change : changes()) {
+            change.on(x);
+            x.restore();
+            Check.same("57 everything", Sofa.picture(x), before);
+        }
+    }
+
+    private static void throwingCallsChangeNothing() {
+        SofaRailway x = rich();
+        String before = Sofa.picture(x);
+        Check.argument("addBlock", () -> x.addBlock(0));
+        Check.argument("addCushion", () -> x.addCushion(10));
+        Check.state("link", () -> x.link(0, 1));
+        Check.missing("unlink", () -> x.unlink(0, 2));
+        Check.state("putCat", () -> x.putCat(1));
+        Check.missing("removeCat", () -> x.removeCat(0));
+        Check.unsupported("addTrain", () -> x.addTrain(1, 3));
+        Check.argument("setGoal", () -> x.setGoal(0, 1));
+        Check.unsupported("setGoal", () -> x.setGoal(0, 0));
+        Check.missing("clearGoal", () -> x.clearGoal(1));
+        Check.state("reserve", () -> x.reserve(0, 1));
+        Check.missing("cancelReservation", () -> x.cancelReservation(1));
+        Check.state("rescue", () -> x.rescue(0));
+        Check.argument("passTicks", () -> x.passTicks(0));
+        Check.same("all of them change nothing", Sofa.picture(x), before);
+        Check.same("and count nothing", x.undoCount(), 0);
+    }
+}
