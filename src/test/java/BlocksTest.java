@@ -116,6 +116,9 @@ public final class BlocksTest {
         Check.index("6 too small", () -> x.putCat(-1));
         Check.index("6 too large", () -> x.putCat(3));
         Check.no("6 none with the train", x.hasCat(0));
+        SofaRailway y = Sofa.of(1, 2);
+        Check.same("6 on the first block", y.putCat(0), 1);
+        Check.same("6 on the last block", y.putCat(1), 2);
     }
 
     private static void promise7RemoveCat() {

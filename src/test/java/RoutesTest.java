@@ -53,6 +53,13 @@ public final class RoutesTest {
         detour.link(2, 3);
         detour.link(3, 4);
         due("more blocks but shorter", detour, 0, 4, 3);
+        SofaRailway mirrored = Sofa.of(1, 1, 1, 9, 1);
+        mirrored.link(0, 3);
+        mirrored.link(3, 4);
+        mirrored.link(0, 1);
+        mirrored.link(1, 2);
+        mirrored.link(2, 4);
+        due("more blocks with smaller indices but shorter", mirrored, 0, 4, 3);
         detour.unlink(2, 3);
         due("after unlink", detour, 0, 4, 10);
     }
@@ -119,6 +126,12 @@ public final class RoutesTest {
         parts("one part", x, 1);
         x.unlink(3, 0);
         parts("cut again", x, 2);
+        SofaRailway crossed = Sofa.of(1, 1, 1, 1);
+        crossed.link(0, 2);
+        crossed.link(1, 2);
+        crossed.link(0, 3);
+        crossed.link(1, 3);
+        parts("a ring over crossed indices", crossed, 1);
         parts("the longest line", Sofa.line(9, 9, 9, 9, 9, 9, 9, 9, 9, 9, 9, 9, 9, 9), 1);
         parts("nothing", new SofaRailway(), 0);
     }

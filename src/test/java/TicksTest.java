@@ -259,6 +259,10 @@ public final class TicksTest {
         x.rescue(0);
         x.passTicks(1);
         wrote("46 remaining", x, x.writeTrain(0), "T0@11+3");
+        x.passTicks(2);
+        wrote("46 one remaining", x, x.writeTrain(0), "T0@11+1");
+        x.passTicks(1);
+        wrote("46 none remaining", x, x.writeTrain(0), "T0@11");
         x.addTrain(0, 1);
         wrote("46 another train", x, x.writeTrain(1), "T1@0");
         Check.index("46 too small", () -> x.writeTrain(-1));

@@ -161,6 +161,9 @@ public final class TrainsTest {
         Check.same("28 remaining ticks stay", x.remainingTicks(0), 2);
         Check.same("28 the goal stays", x.goal(0), 4);
         Check.same("28 none left", x.rescue(1), 0);
+        SofaRailway y = twoDerailed();
+        Check.same("28 the first one left", y.rescue(1), 1);
+        Check.yes("28 still derailed", y.isDerailed(0));
     }
 
     private static void promise29To31And35Simple() {

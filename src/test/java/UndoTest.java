@@ -7,6 +7,7 @@ public final class UndoTest {
         promise54EachChange();
         promise54Limit();
         promise54AfterNewChanges();
+        promise54Waits();
         promise54KeepsInput();
         promise55UndoCount();
         promise56And57SaveAndRestore();
@@ -171,10 +172,50 @@ public final class UndoTest {
         x.undo();
         Check.same("57 undo does not matter", x.restore(), 4);
         Check.same("57 the last block", x.length(3), 8);
+        promise57AnotherRailway();
         SofaRailway empty = new SofaRailway();
         Check.same("56 an empty one", empty.save(), 0);
         empty.addBlock(1);
         Check.same("57 an empty one", empty.restore(), 0);
+    }
+
+    /** What is there instead of the saved blocks and trains has the same indices but is otherwise unlike them. */
+    private static void promise57AnotherRailway() {
+        SofaRailway x = new SofaRailway();
+        x.addBlock(1);
+        x.addBlock(2);
+        x.addTrain(1, 3);
+        String before = Sofa.picture(x);
+        x.save();
+        x.undo();
+        x.undo();
+        x.undo();
+        x.addCushion(9);
+        x.addCushion(8);
+        x.link(0, 1);
+        x.addTrain(0, 7);
+        x.setGoal(0, 1);
+        x.passTicks(2);
+        x.putCat(0);
+        x.restore();
+        Check.same("57 another railway", Sofa.picture(x), before);
+    }
+
+    private static void promise54Waits() {
+        SofaRailway x = Sofa.line(1, 1, -1);
+        x.addTrain(0, 5);
+        x.addTrain(1, 5);
+        x.setGoal(0, 2);
+        x.passTicks(3);
+        x.passTicks(4);
+        Check.same("54 seven waits", x.waits(0), 7);
+        x.undo();
+        Check.same("54 three waits", x.waits(0), 3);
+        x.save();
+        x.undo();
+        Check.same("54 no waits", x.waits(0), 0);
+        x.restore();
+        Check.same("57 three waits", x.waits(0), 3);
     }
 
     private static void promise57Everything() {
