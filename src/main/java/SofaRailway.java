@@ -91,12 +91,12 @@ public final class SofaRailway {
 
     public boolean isCushion(int block) throws IndexOutOfBoundsException {
         needBlock(block);
-        return now.cushions[block];
+        return has(now.cushions, block);
     }
 
     public boolean hasCat(int block) throws IndexOutOfBoundsException {
         needBlock(block);
-        return now.cats[block];
+        return has(now.cats, block);
     }
 
     public boolean areLinked(int first, int second) throws IndexOutOfBoundsException {
@@ -220,7 +220,7 @@ public final class SofaRailway {
 
     public boolean isDerailed(int train) throws IndexOutOfBoundsException {
         needTrain(train);
-        return now.derailed[train];
+        return has(now.derailed, train);
     }
 
     public int waits(int train) throws IndexOutOfBoundsException {
@@ -295,7 +295,7 @@ public final class SofaRailway {
         if (now.goals[train] != NONE) {
             output.putMarked('>', now.goals[train]);
         }
-        if (now.derailed[train]) {
+        if (has(now.derailed, train)) {
             output.put('!');
         }
         return output.size;
@@ -405,6 +405,11 @@ public final class SofaRailway {
         }
     }
 
+    /** A set of blocks or trains is a number in which the bit of each member is set. */
+    private static boolean has(int set, int member) {
+        return (set >> member & 1) != 0;
+    }
+
     private static int found(int answer) {
         if (answer == NONE) {
             throw new NoSuchElementException("there is none");
@@ -461,18 +466,23 @@ public final class SofaRailway {
 
     /**
      * Everything that changes can change. A change answers what its call returns, or a refusal, and then it has
-     * changed nothing.
+     * changed nothing. Counts of blocks and trains go down only by copyFrom, so what is added finds its place in the
+     * sets empty.
      */
     private static final class Layout {
         int blocks = 0;
         int trains = 0;
         int ticks = 0;
         int arrivals = 0;
+        /** The set of the blocks that are cushions. */
+        int cushions = 0;
+        /** The set of the blocks with a cat. */
+        int cats = 0;
+        /** The set of the derailed trains. */
+        int derailed = 0;
         final int[] lengths = new int[MAX_BLOCKS];
-        /** For each block a set of blocks: bit b is set if block b is linked with it. */
+        /** For each block the set of the blocks that are linked with it. */
         final int[] links = new int[MAX_BLOCKS];
-        final boolean[] cushions = new boolean[MAX_BLOCKS];
-        final boolean[] cats = new boolean[MAX_BLOCKS];
         final int[] places = new int[MAX_TRAINS];
         final int[] priorities = new int[MAX_TRAINS];
         final int[] remaining = new int[MAX_TRAINS];
@@ -481,24 +491,23 @@ public final class SofaRailway {
         /** For each train a block, or NONE. */
         final int[] holds = new int[MAX_TRAINS];
         final int[] waits = new int[MAX_TRAINS];
-        final boolean[] derailed = new boolean[MAX_TRAINS];
 
         void copyFrom(Layout other) {
             blocks = other.blocks;
             trains = other.trains;
             ticks = other.ticks;
             arrivals = other.arrivals;
+            cushions = other.cushions;
+            cats = other.cats;
+            derailed = other.derailed;
             System.arraycopy(other.lengths, 0, lengths, 0, MAX_BLOCKS);
             System.arraycopy(other.links, 0, links, 0, MAX_BLOCKS);
-            System.arraycopy(other.cushions, 0, cushions, 0, MAX_BLOCKS);
-            System.arraycopy(other.cats, 0, cats, 0, MAX_BLOCKS);
             System.arraycopy(other.places, 0, places, 0, MAX_TRAINS);
             System.arraycopy(other.priorities, 0, priorities, 0, MAX_TRAINS);
             System.arraycopy(other.remaining, 0, remaining, 0, MAX_TRAINS);
             System.arraycopy(other.goals, 0, goals, 0, MAX_TRAINS);
             System.arraycopy(other.holds, 0, holds, 0, MAX_TRAINS);
             System.arraycopy(other.waits, 0, waits, 0, MAX_TRAINS);
-            System.arraycopy(other.derailed, 0, derailed, 0, MAX_TRAINS);
         }
 
         boolean isBlock(int block) {
@@ -510,7 +519,7 @@ public final class SofaRailway {
         }
 
         boolean isJoined(int first, int second) {
-            return (links[first] >> second & 1) != 0;
+            return has(links[first], second);
         }
 
         int trainAt(int block) {
@@ -532,7 +541,7 @@ public final class SofaRailway {
         }
 
         char signalOf(int block) {
-            if (cats[block]) {
+            if (has(cats, block)) {
                 return 'c';
             }
             if (trainAt(block) != NONE) {
@@ -574,9 +583,9 @@ public final class SofaRailway {
             }
             int block = blocks;
             lengths[block] = blockLength;
-            links[block] = 0;
-            cushions[block] = asCushion;
-            cats[block] = false;
+            if (asCushion) {
+                cushions |= 1 << block;
+            }
             blocks++;
             return block;
         }
@@ -612,25 +621,25 @@ public final class SofaRailway {
             if (!isBlock(block)) {
                 return NO_INDEX;
             }
-            if (cats[block]) {
+            if (has(cats, block)) {
                 return BAD_STATE;
             }
             if (trainAt(block) != NONE) {
                 return UNSUPPORTED;
             }
-            cats[block] = true;
-            return countCats();
+            cats |= 1 << block;
+            return Integer.bitCount(cats);
         }
 
         int liftCat(int block) {
             if (!isBlock(block)) {
                 return NO_INDEX;
             }
-            if (!cats[block]) {
+            if (!has(cats, block)) {
                 return NOT_FOUND;
             }
-            cats[block] = false;
-            return countCats();
+            cats &= ~(1 << block);
+            return Integer.bitCount(cats);
         }
 
         int placeTrain(int block, int trainPriority) {
@@ -643,7 +652,7 @@ public final class SofaRailway {
             if (trains >= MAX_TRAINS) {
                 return BAD_STATE;
             }
-            if (trainAt(block) != NONE || cats[block] || holderOf(block) != NONE) {
+            if (trainAt(block) != NONE || has(cats, block) || holderOf(block) != NONE) {
                 return UNSUPPORTED;
             }
             int train = trains;
@@ -653,7 +662,6 @@ public final class SofaRailway {
             goals[train] = NONE;
             holds[train] = NONE;
             waits[train] = 0;
-            derailed[train] = false;
             trains++;
             return train;
         }
@@ -703,11 +711,11 @@ public final class SofaRailway {
             if (!isTrain(train)) {
                 return NO_INDEX;
             }
-            if (!derailed[train]) {
+            if (!has(derailed, train)) {
                 return BAD_STATE;
             }
-            derailed[train] = false;
-            return countDerailed();
+            derailed &= ~(1 << train);
+            return Integer.bitCount(derailed);
         }
 
         /** Whether neither another train nor its reservation keeps a train out of a block. */
@@ -720,9 +728,9 @@ public final class SofaRailway {
             places[train] = block;
             holds[train] = NONE;
             remaining[train] = lengths[block];
-            if (cats[block]) {
-                derailed[train] = true;
-                cats[block] = false;
+            if (has(cats, block)) {
+                derailed |= 1 << train;
+                cats &= ~(1 << block);
             }
             if (goals[train] == block) {
                 goals[train] = NONE;
@@ -738,30 +746,10 @@ public final class SofaRailway {
             return ends / 2;
         }
 
-        private int countCats() {
-            int count = 0;
-            for (int block = 0; block < blocks; block++) {
-                if (cats[block]) {
-                    count++;
-                }
-            }
-            return count;
-        }
-
         private int countHolds() {
             int count = 0;
             for (int train = 0; train < trains; train++) {
                 if (holds[train] != NONE) {
-                    count++;
-                }
-            }
-            return count;
-        }
-
-        private int countDerailed() {
-            int count = 0;
-            for (int train = 0; train < trains; train++) {
-                if (derailed[train]) {
                     count++;
                 }
             }
@@ -790,7 +778,7 @@ public final class SofaRailway {
                 settled |= 1 << nearest;
                 for (int block = 0; block < layout.blocks; block++) {
                     int way = byNearest[nearest] + layout.lengths[block];
-                    if ((layout.links[nearest] >> block & 1) != 0 && way < byNearest[block]) {
+                    if (has(layout.links[nearest], block) && way < byNearest[block]) {
                         byNearest[block] = way;
                     }
                 }
@@ -883,7 +871,7 @@ public final class SofaRailway {
             int cushion = NONE;
             int least = FAR;
             for (int block = 0; block < layout.blocks; block++) {
-                if (layout.cushions[block] && byNearest[block] < least) {
+                if (has(layout.cushions, block) && byNearest[block] < least) {
                     cushion = block;
                     least = byNearest[block];
                 }
@@ -895,7 +883,7 @@ public final class SofaRailway {
             int parts = 0;
             int seen = 0;
             for (int block = 0; block < layout.blocks; block++) {
-                if ((seen >> block & 1) == 0) {
+                if (!has(seen, block)) {
                     parts++;
                     seen = walk(layout, block, seen, 0);
                 }
@@ -910,7 +898,7 @@ public final class SofaRailway {
             }
             int reached = seen | 1 << block;
             for (int other = 0; other < layout.blocks; other++) {
-                if (layout.isJoined(block, other) && (reached >> other & 1) == 0) {
+                if (layout.isJoined(block, other) && !has(reached, other)) {
                     reached = walk(layout, other, reached, depth + 1);
                 }
             }
@@ -947,14 +935,14 @@ public final class SofaRailway {
         private final Routes routes = new Routes();
         /** For each train the train by which it is blocked, or NONE. */
         private final int[] blockers = new int[MAX_TRAINS];
-        /** For each train a set of trains: bit t is set if train t blocks it, directly or over other ones. */
+        /** For each train the set of the trains that block it, directly or over other ones. */
         private final int[] table = new int[MAX_TRAINS];
 
         int aim(Layout layout, int train, int block) {
             if (!layout.isTrain(train) || !layout.isBlock(block)) {
                 return NO_INDEX;
             }
-            if (!layout.cushions[block]) {
+            if (!has(layout.cushions, block)) {
                 return BAD_ARGUMENT;
             }
             if (layout.places[train] == block) {
@@ -984,7 +972,7 @@ public final class SofaRailway {
         }
 
         private void consider(Layout layout, int train) {
-            if (!layout.isTrain(train) || layout.derailed[train]) {
+            if (!layout.isTrain(train) || has(layout.derailed, train)) {
                 return;
             }
             if (layout.remaining[train] > 0) {
@@ -1015,7 +1003,7 @@ public final class SofaRailway {
 
         /** The train by which a train is blocked, or NONE. */
         int blockerOf(Layout layout, int train) {
-            if (layout.derailed[train]) {
+            if (has(layout.derailed, train)) {
                 return NONE;
             }
             int next = routes.nextFor(layout, train);
@@ -1056,14 +1044,16 @@ public final class SofaRailway {
             }
             for (int over = 0; over < layout.trains; over++) {
                 for (int train = 0; train < layout.trains; train++) {
-                    if ((table[train] >> over & 1) != 0) {
+                    if (has(table[train], over)) {
                         table[train] |= table[over];
                     }
                 }
             }
             int stuck = 0;
             for (int train = 0; train < layout.trains; train++) {
-                stuck += table[train] >> train & 1;
+                if (has(table[train], train)) {
+                    stuck++;
+                }
             }
             return stuck;
         }
@@ -1197,7 +1187,7 @@ public final class SofaRailway {
 
         private boolean closeCommand(int end) {
             position = end;
-            if (end == size) {
+            if (end >= size) {
                 ended = true;
                 return true;
             }

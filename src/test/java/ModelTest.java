@@ -6,13 +6,17 @@ import java.util.List;
 
 /** Long runs of calls, always the same ones, on the class and on Model: every answer must be the same. */
 public final class ModelTest {
-    private static final int RUNS = 1500;
+    private static final int RUNS = 1200;
     private static final int CALLS = 512;
     private static final String[] BUILDING = {"addBlock", "addCushion", "link", "link", "link", "link", "addTrain",
         "setGoal", "setGoal", "passTicks"};
     private static final String[] CHANGING = {"link", "unlink", "putCat", "removeCat", "addTrain", "setGoal",
         "setGoal", "setGoal", "clearGoal", "reserve", "reserve", "cancelReservation", "rescue", "rescue", "passTicks",
         "passTicks", "passTicks", "undo"};
+
+    private static final List<String> WITH_TRAIN = List.of("setGoal", "clearGoal", "reserve", "cancelReservation",
+            "rescue", "nextBlock", "blockOf", "priority", "remainingTicks", "goal", "isDerailed", "waits", "blockedBy",
+            "ticksUntilArrival", "writeTrain", "trainByPriority");
 
     private final List<String> log = new ArrayList<>();
     private final Method[] methods;
@@ -55,6 +59,8 @@ public final class ModelTest {
                 good = call(CHANGING[below(CHANGING.length)]);
             } else if (style == 2 && kind < 6) {
                 good = text(below(6) == 0);
+            } else if (kind < 6) {
+                good = call(WITH_TRAIN.get(below(WITH_TRAIN.size())));
             } else {
                 good = call(methods[below(methods.length)].getName());
             }
@@ -103,9 +109,7 @@ public final class ModelTest {
             int[] wild = {-1, 14, 15, 32, 64, Integer.MIN_VALUE, Integer.MAX_VALUE, 0, 51, 10};
             return wild[below(wild.length)];
         }
-        boolean train = which == 0 && (name.equals("setGoal") || name.equals("reserve")
-                || name.equals("cancelReservation") || name.equals("rescue") || name.equals("clearGoal"));
-        if (train && model.trainCount() > 0) {
+        if (which == 0 && WITH_TRAIN.contains(name) && model.trainCount() > 0) {
             return below(model.trainCount());
         }
         switch (name) {
@@ -118,6 +122,8 @@ public final class ModelTest {
                 return which == 1 ? 1 + below(9) : anyBlock();
             case "reserve":
                 return besideTrain();
+            case "setGoal":
+                return mostlyCushion();
             default:
                 return anyBlock();
         }
@@ -127,6 +133,17 @@ public final class ModelTest {
     private int besideTrain() {
         return model.trainCount() > 0 && below(2) == 0
                 ? Math.max(0, model.blockOf(below(model.trainCount())) + below(5) - 2) : anyBlock();
+    }
+
+    private int mostlyCushion() {
+        int block = anyBlock();
+        for (int tries = 0; tries < 4; tries++) {
+            if (block < model.blockCount() && model.isCushion(block)) {
+                return block;
+            }
+            block = anyBlock();
+        }
+        return block;
     }
 
     private int anyBlock() {
