@@ -5,35 +5,57 @@ final class Check {
     }
 
     private static int wrong = 0;
+    private static int looks = 0;
+    /** What the answers are held against just now; it stands before each report. */
+    private static String context = "";
 
     private Check() {
     }
 
+    static void begin(String newContext) {
+        context = newContext;
+        looks = 0;
+    }
+
+    /** How many answers were looked at since begin. */
+    static int looks() {
+        return looks;
+    }
+
+    static int wrong() {
+        return wrong;
+    }
+
     static void same(String what, long got, long due) {
+        looks++;
         if (got != due) {
             report(what + " answered " + got + ", due is " + due);
         }
     }
 
     static void same(String what, double got, double due) {
+        looks++;
         if (got != due) {
             report(what + " answered " + got + ", due is " + due);
         }
     }
 
     static void same(String what, String got, String due) {
+        looks++;
         if (!got.equals(due)) {
             report(what + " answered " + got + ", due is " + due);
         }
     }
 
     static void yes(String what, boolean got) {
+        looks++;
         if (!got) {
             report(what + " answered false, due is true");
         }
     }
 
     static void no(String what, boolean got) {
+        looks++;
         if (got) {
             report(what + " answered true, due is false");
         }
@@ -41,6 +63,7 @@ final class Check {
 
     /** The exception must be of the very class, since a class below it could be one that the machine throws. */
     static void refused(String what, Class<? extends RuntimeException> due, Call call) {
+        looks++;
         try {
             call.run();
         } catch (RuntimeException e) {
@@ -78,7 +101,7 @@ final class Check {
 
     static void report(String line) {
         wrong++;
-        System.out.println(line);
+        System.out.println(context + line);
     }
 
     static void finish() {

@@ -27,6 +27,13 @@ final class Sofa {
         return x;
     }
 
+    /** Links the first with the second, the third with the fourth, and so on. */
+    static void links(SofaRailway x, int... blocks) {
+        for (int i = 0; i + 1 < blocks.length; i += 2) {
+            x.link(blocks[i], blocks[i + 1]);
+        }
+    }
+
     static int run(SofaRailway x, String text) {
         feed(x, text);
         return x.execute();
@@ -36,6 +43,12 @@ final class Sofa {
         for (int i = 0; i < text.length(); i++) {
             x.feed(text.charAt(i));
         }
+    }
+
+    /** Returns what execute answered, or the name of the exception that it threw. */
+    static String attempt(SofaRailway x, String text) {
+        feed(x, text);
+        return outcome(x::execute);
     }
 
     static String output(SofaRailway x, int length) {
@@ -49,19 +62,63 @@ final class Sofa {
     /** Everything that changes can change, as far as queries show it without writing an output. */
     static String picture(SofaRailway x) {
         StringBuilder text = new StringBuilder();
-        for (int block = 0; block < x.blockCount(); block++) {
+        int blocks = x.blockCount();
+        int trains = x.trainCount();
+        for (int block = 0; block < blocks; block++) {
             text.append(x.length(block)).append(x.isCushion(block) ? 'C' : 'B').append(x.hasCat(block) ? 'c' : '-');
             for (int other = 0; other < block; other++) {
                 text.append(x.areLinked(block, other) ? '1' : '0');
             }
             text.append(x.signal(block)).append(holder(x, block)).append(' ');
         }
-        for (int train = 0; train < x.trainCount(); train++) {
+        for (int train = 0; train < trains; train++) {
             text.append('T').append(x.blockOf(train)).append('p').append(x.priority(train))
                     .append('+').append(x.remainingTicks(train)).append('>').append(goal(x, train))
                     .append('w').append(x.waits(train)).append(x.isDerailed(train) ? "! " : " ");
         }
         return text.append(x.ticks()).append('/').append(x.arrivals()).toString();
+    }
+
+    private interface Question {
+        int ask();
+    }
+
+    private static String outcome(Question question) {
+        try {
+            return "" + question.ask();
+        } catch (RuntimeException e) {
+            return e.getClass().getSimpleName();
+        }
+    }
+
+    /**
+     * Everything that calls can show: the railway, the output, what was kept, the input, the changes that can be
+     * undone, and what was saved. The railway is not the same afterwards.
+     */
+    static String everything(SofaRailway x) {
+        StringBuilder text = new StringBuilder(picture(x));
+        text.append("\n  output ").append(wholeOutput(x));
+        text.append("\n  kept ").append(outcome(x::errorPosition)).append(' ').append(outcome(x::failedCommand));
+        text.append("\n  undo ").append(x.undoCount());
+        text.append("\n  input ").append(outcome(() -> x.feed('9'))).append(' ').append(outcome(x::execute))
+                .append(' ').append(outcome(x::errorPosition)).append(' ').append(x.ticks());
+        for (int left = x.undoCount(); left > 0; left--) {
+            text.append("\n  undone ").append(x.undo()).append(' ').append(picture(x));
+        }
+        text.append("\n  restored ").append(outcome(x::restore)).append(' ').append(picture(x));
+        return text.toString();
+    }
+
+    private static String wholeOutput(SofaRailway x) {
+        StringBuilder text = new StringBuilder();
+        try {
+            for (int i = 0; i < 60; i++) {
+                text.append(x.outputCharacter(i));
+            }
+        } catch (IndexOutOfBoundsException e) {
+            return text.append('.').toString();
+        }
+        return text.toString();
     }
 
     private static String holder(SofaRailway x, int block) {
