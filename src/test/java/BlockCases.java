@@ -4,7 +4,6 @@ final class BlockCases extends Cases {
         newObject();
         addBlock();
         addCushion();
-        addingRefused();
         link();
         unlink();
         putCat();
@@ -26,9 +25,9 @@ final class BlockCases extends Cases {
             SofaRailway x = new SofaRailway();
             Check.same("blocks", x.blockCount(), 0);
             Check.same("trains", x.trainCount(), 0);
-            Check.same("everything", Sofa.everything(x), "0/0\n  output .\n"
-                    + "  kept NoSuchElementException NoSuchElementException\n  undo 0\n"
-                    + "  input 1 IllegalArgumentException 0 0\n  restored IllegalStateException 0/0");
+            Check.same("everything", Sofa.everything(x), "kept NoSuchElementException NoSuchElementException\n"
+                    + "  undo 0\n  input 1 IllegalArgumentException 0 0\n  output .\n  railway 0/0\n"
+                    + "  restored IllegalStateException 0/0");
             SofaRailway other = Scene.rich();
             Check.same("blocks of a new object beside a used one", new SofaRailway().blockCount(), 0);
             Check.same("blocks of the used one", other.blockCount(), 7);
@@ -54,31 +53,7 @@ final class BlockCases extends Cases {
                 Check.same("signal " + block, x.signal(block), 'f');
             }
         });
-        holds("Returns the index of the block.", () -> {
-            SofaRailway x = new SofaRailway();
-            for (int block = 0; block < 14; block++) {
-                Check.same("index", x.addBlock(1), block);
-            }
-            x.undo();
-            Check.same("the last index again", x.addBlock(1), 13);
-            Check.same("behind cushions", Sofa.of(-1, -1).addBlock(1), 2);
-        });
-        holds("Throws `IllegalArgumentException` if length is not from 1 to 9", () -> {
-            for (int length : new int[] {0, 10, -1, 11, 257, -9, Integer.MIN_VALUE, Integer.MAX_VALUE}) {
-                argument("length " + length, SofaRailway::new, x -> x.addBlock(length));
-            }
-            SofaRailway x = new SofaRailway();
-            Check.same("length 1", x.addBlock(1), 0);
-            Check.same("length 9", x.addBlock(9), 1);
-        });
-        holds("Throws `IllegalStateException` if there are 14 blocks", () -> {
-            state("block 14", Scene::fullBlocks, x -> x.addBlock(1));
-            Check.same("block 13", Scene.blocks(13).addBlock(1), 13);
-            SofaRailway cushions = Sofa.of(-1, -1, -1, -1, -1, -1, -1, -1, -1, -1, -1, -1, -1, -1);
-            Check.state("block 14 behind cushions", () -> cushions.addBlock(1));
-            cushions.undo();
-            Check.same("after undo", cushions.addBlock(1), 13);
-        });
+        addingEdges(SofaRailway::addBlock);
     }
 
     private void addCushion() {
@@ -95,46 +70,45 @@ final class BlockCases extends Cases {
                 Check.same("signal " + block, x.signal(block), 'f');
             }
         });
+        addingEdges(SofaRailway::addCushion);
+    }
+
+    private interface Adding {
+        int to(SofaRailway x, int length);
+    }
+
+    private void addingEdges(Adding adding) {
         holds("Returns the index of the block.", () -> {
             SofaRailway x = new SofaRailway();
             for (int block = 0; block < 14; block++) {
-                Check.same("index", x.addCushion(1), block);
+                Check.same("index", adding.to(x, 1), block);
             }
             x.undo();
-            Check.same("the last index again", x.addCushion(1), 13);
-            Check.same("behind plain blocks", Sofa.of(1, 1).addCushion(1), 2);
+            Check.same("the last index again", adding.to(x, 1), 13);
+            Check.same("behind plain blocks", adding.to(Sofa.of(1, 1), 1), 2);
+            Check.same("behind cushions", adding.to(Sofa.of(-1, -1), 1), 2);
         });
         holds("Throws `IllegalArgumentException` if length is not from 1 to 9", () -> {
             for (int length : new int[] {0, 10, -1, 11, 257, -9, Integer.MIN_VALUE, Integer.MAX_VALUE}) {
-                argument("length " + length, SofaRailway::new, x -> x.addCushion(length));
+                argument("length " + length, SofaRailway::new, x -> adding.to(x, length));
             }
             SofaRailway x = new SofaRailway();
-            Check.same("length 1", x.addCushion(1), 0);
-            Check.same("length 9", x.addCushion(9), 1);
+            Check.same("length 1", adding.to(x, 1), 0);
+            Check.same("length 9", adding.to(x, 9), 1);
         });
         holds("Throws `IllegalStateException` if there are 14 blocks", () -> {
-            state("block 14", Scene::fullBlocks, x -> x.addCushion(1));
-            Check.same("block 13", Scene.blocks(13).addCushion(1), 13);
-            SofaRailway full = Scene.fullBlocks();
-            full.undo();
-            Check.same("after undo", full.addCushion(1), 13);
+            state("block 14", Scene::fullBlocks, x -> adding.to(x, 1));
+            Check.same("block 13", adding.to(Scene.blocks(13), 1), 13);
+            SofaRailway cushions = Sofa.of(-1, -1, -1, -1, -1, -1, -1, -1, -1, -1, -1, -1, -1, -1);
+            Check.state("block 14 behind cushions", () -> adding.to(cushions, 1));
+            cushions.undo();
+            Check.same("after undo", adding.to(cushions, 1), 13);
         });
-    }
-
-    private void addingRefused() {
-        promise(2);
-        changesNothing(x -> x.addBlock(0), x -> x.addBlock(10));
-        changesNothing(Scene::settledBlocks, x -> x.addBlock(1), x -> x.addBlock(0));
+        changesNothing(x -> adding.to(x, 0), x -> adding.to(x, 10));
+        changesNothing(Scene::usedBlocks, x -> adding.to(x, 1), x -> adding.to(x, 0));
         holds(FIRST_DECIDES, () -> {
-            argument("length 0 behind 14 blocks", Scene::fullBlocks, x -> x.addBlock(0));
-            argument("length 10 behind 14 blocks", Scene::fullBlocks, x -> x.addBlock(10));
-        });
-        promise(3);
-        changesNothing(x -> x.addCushion(0), x -> x.addCushion(10));
-        changesNothing(Scene::settledBlocks, x -> x.addCushion(1), x -> x.addCushion(0));
-        holds(FIRST_DECIDES, () -> {
-            argument("length 0 behind 14 blocks", Scene::fullBlocks, x -> x.addCushion(0));
-            argument("length 10 behind 14 blocks", Scene::fullBlocks, x -> x.addCushion(10));
+            argument("length 0 behind 14 blocks", Scene::fullBlocks, x -> adding.to(x, 0));
+            argument("length 10 behind 14 blocks", Scene::fullBlocks, x -> adding.to(x, 10));
         });
     }
 
@@ -324,10 +298,7 @@ final class BlockCases extends Cases {
             Check.missing("a cat that was taken", () -> x.removeCat(0));
         });
         changesNothing(x -> x.removeCat(-1), x -> x.removeCat(0), x -> x.removeCat(6));
-        holds(FIRST_DECIDES, () -> {
-            index("no cat, since no block", Scene::rich, x -> x.removeCat(7));
-            index("no block at all", SofaRailway::new, x -> x.removeCat(0));
-        });
+        blockIndexDecides((x, block) -> x.removeCat(block));
     }
 
     private void blockCount() {
@@ -488,21 +459,13 @@ final class BlockCases extends Cases {
             missing("beside six trains", Scene::fullTrains, x -> x.trainIn(6));
         });
         changesNothing(x -> x.trainIn(7), x -> x.trainIn(1));
-        holds(FIRST_DECIDES, () -> {
-            index("no train, since no block", Scene::rich, x -> x.trainIn(7));
-            index("below 0", Scene::rich, x -> x.trainIn(-1));
-        });
+        blockIndexDecides((x, block) -> x.trainIn(block));
     }
 
     private void reservedBy() {
         promise(15);
         holds("Returns the train that has reserved a block.", () -> {
-            SofaRailway x = Scene.blocks(14);
-            Sofa.links(x, 0, 1, 12, 13);
-            x.addTrain(1, 5);
-            x.addTrain(12, 5);
-            x.reserve(0, 0);
-            x.reserve(1, 13);
+            SofaRailway x = Scene.reservedEnds();
             Check.same("the first block", x.reservedBy(0), 0);
             Check.same("the last block", x.reservedBy(13), 1);
         });
@@ -528,10 +491,7 @@ final class BlockCases extends Cases {
             Check.missing("the train is in it", () -> x.reservedBy(1));
         });
         changesNothing(x -> x.reservedBy(7), x -> x.reservedBy(0));
-        holds(FIRST_DECIDES, () -> {
-            index("not reserved, since no block", Scene::rich, x -> x.reservedBy(7));
-            index("below 0, as no reservation may be kept", Scene::rich, x -> x.reservedBy(-1));
-        });
+        blockIndexDecides((x, block) -> x.reservedBy(block));
     }
 
     private void signal() {

@@ -56,6 +56,24 @@ abstract class Cases {
         });
     }
 
+    /** For a block that there is not, only the index is looked at, though nothing is found there either. */
+    final void blockIndexDecides(IndexCall call) {
+        holds(FIRST_DECIDES, () -> {
+            index("no block 7", Scene::rich, x -> call.on(x, 7));
+            index("no block -1", Scene::rich, x -> call.on(x, -1));
+            index("no block 0", SofaRailway::new, x -> call.on(x, 0));
+        });
+    }
+
+    /** The same for a train. */
+    final void trainIndexDecides(IndexCall call) {
+        holds(FIRST_DECIDES, () -> {
+            index("no train 3", Scene::rich, x -> call.on(x, 3));
+            index("no train -1", Scene::rich, x -> call.on(x, -1));
+            index("no train 0", Scene::fullBlocks, x -> call.on(x, 0));
+        });
+    }
+
     static void unchanged(String what, Way way, Call call) {
         SofaRailway x = way.go();
         boolean threw = false;
@@ -66,6 +84,18 @@ abstract class Cases {
         }
         Check.yes(what + " throws", threw);
         Check.same(what + " then everything", Sofa.everything(x), Sofa.everything(way.go()));
+    }
+
+    static void outputOfRich(String what, SofaRailway x) {
+        Check.same(what + " the output", Sofa.output(x, 9), "T1@3+4>4!");
+        Check.index(what + " the end of the output", () -> x.outputCharacter(9));
+    }
+
+    /** Executes the text that is begun, with one more digit. */
+    static void inputOfRich(String what, SofaRailway x) {
+        Check.same(what + " the length of the input", x.feed('9'), 6);
+        Check.same(what + " the input", x.execute(), 1);
+        Check.same(what + " what it does", x.ticks(), 10);
     }
 
     /** Tries the call with each index around those that there are. */

@@ -13,8 +13,8 @@ final class ChangeCases extends Cases {
         firstListed();
     }
 
-    /** Each kind of change, possible on the rich railway. */
-    private static List<Call> changes() {
+    /** Each kind of change, possible on the rich railway. The last one lets a train wait. */
+    static List<Call> changes() {
         List<Call> changes = new ArrayList<>();
         changes.add(x -> x.addBlock(7));
         changes.add(x -> x.addCushion(7));
@@ -29,7 +29,7 @@ final class ChangeCases extends Cases {
         changes.add(x -> x.cancelReservation(0));
         changes.add(x -> x.rescue(1));
         changes.add(x -> x.passTicks(2));
-        changes.add(x -> Sofa.run(x, "3;cat 5;block 1"));
+        changes.add(x -> Sofa.run(x, "3;goal 2>0;tick 2;cat 5;block 1"));
         return changes;
     }
 
@@ -41,10 +41,14 @@ final class ChangeCases extends Cases {
                 SofaRailway x = Scene.rich();
                 String before = Sofa.picture(x);
                 change.on(x);
-                Check.no("change " + number + " shows", Sofa.picture(x).equals(before));
+                String after = Sofa.picture(x);
+                Check.no("change " + number + " shows", after.equals(before));
                 Check.same("change " + number + " counts once", x.undoCount(), 3);
                 Check.same("change " + number + " is undone", x.undo(), 2);
                 Check.same("after undo of change " + number, Sofa.picture(x), before);
+                Sofa.feed(x, "tick ");
+                change.on(x);
+                Check.same("after change " + number + " again", Sofa.picture(x), after);
                 number++;
             }
             SofaRailway same = Scene.rich();
@@ -129,13 +133,10 @@ final class ChangeCases extends Cases {
 
     /** The output, what is kept, and the input of the rich railway. */
     private static void asBefore(String what, SofaRailway x) {
-        Check.same(what + " the output", Sofa.output(x, 9), "T1@3+4>4!");
-        Check.index(what + " the end of the output", () -> x.outputCharacter(9));
-        Check.same(what + " the error position", x.errorPosition(), 4);
+        outputOfRich(what, x);
+        Check.same(what + " the error position", x.errorPosition(), 5);
         Check.same(what + " the failed command", x.failedCommand(), 1);
-        Check.same(what + " the length of the input", x.feed('9'), 6);
-        Check.same(what + " the input", x.execute(), 1);
-        Check.same(what + " what it does", x.ticks(), 10);
+        inputOfRich(what, x);
     }
 
     private void eachRefusal() {
@@ -145,11 +146,11 @@ final class ChangeCases extends Cases {
                 x -> x.passTicks(51));
         holds(CHANGES_NOTHING, () -> {
             SofaRailway x = Scene.rich();
-            Check.argument("what its description says otherwise", () -> Sofa.run(x, "!"));
-            Check.same("the error position is kept", x.errorPosition(), 5);
+            Check.argument("what its description says otherwise", () -> Sofa.run(x, "9!"));
+            Check.same("the error position is kept", x.errorPosition(), 6);
             Check.same("the input is empty", x.feed('t'), 1);
-            Check.unsupported("and otherwise", () -> Sofa.run(x, "ick 9;block 0"));
-            Check.same("the failed command is kept", x.failedCommand(), 1);
+            Check.unsupported("and otherwise", () -> Sofa.run(x, "ick 9;tick 9;block 0"));
+            Check.same("the failed command is kept", x.failedCommand(), 2);
             Check.same("the input is empty again", x.feed('t'), 1);
             Check.same("the railway is as before", Sofa.picture(x), Sofa.picture(Scene.rich()));
             Check.same("and the changes", x.undoCount(), 2);

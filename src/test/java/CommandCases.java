@@ -54,7 +54,12 @@ final class CommandCases extends Cases {
             Check.same("the first 60 are executed", x.execute(), 10);
             Check.same("then there is room", x.feed('0'), 1);
         });
-        changesNothing(CommandCases::sixtyFed, x -> x.feed('1'), x -> x.feed((char) 0));
+        changesNothing(Scene::richFed, x -> x.feed('1'), x -> x.feed((char) 0));
+        holds(CHANGES_NOTHING, () -> {
+            SofaRailway x = Scene.richFed();
+            Check.state("full", () -> x.feed('1'));
+            outputOfRich("then", x);
+        });
     }
 
     private void execute() {
@@ -112,18 +117,20 @@ final class CommandCases extends Cases {
             Check.same("kept in place of it", x.errorPosition(), 0);
         });
         holds(CHANGES_NOTHING, () -> {
-            SofaRailway x = Scene.rich();
-            Check.argument("malformed", () -> Sofa.run(x, "9;cat 1;tick"));
-            SofaRailway due = Scene.rich();
-            Check.argument("malformed at once", () -> Sofa.run(due, "!"));
-            Check.same("the railway", Sofa.picture(x), Sofa.picture(Scene.rich()));
-            Check.same("all but the input and the error position", withoutInput(x), withoutInput(due));
+            String due = Sofa.everything(emptied());
+            SofaRailway malformed = Scene.rich();
+            Check.argument("malformed", () -> Sofa.run(malformed, "!"));
+            Check.same("all but the input, the error position being the same", Sofa.everything(malformed), due);
             SofaRailway failed = Scene.rich();
-            Check.unsupported("failing", () -> Sofa.run(failed, "9;cat 1;cat 1"));
-            SofaRailway kept = Scene.rich();
-            Check.unsupported("failing otherwise", () -> Sofa.run(kept, "2;tick 3;tick 0"));
-            Check.same("the railway", Sofa.picture(failed), Sofa.picture(Scene.rich()));
-            Check.same("all but the input and the failed command", Sofa.everything(failed), Sofa.everything(kept));
+            Check.unsupported("failing", () -> Sofa.run(failed, "9;tick 0"));
+            Check.same("all but the input, the failed command being the same", Sofa.everything(failed), due);
+            SofaRailway late = Scene.rich();
+            Check.argument("malformed late", () -> Sofa.run(late, "9;cat 1;tick"));
+            Check.same("the railway", Sofa.picture(late), Sofa.picture(Scene.rich()));
+            outputOfRich("after a malformed text", late);
+            SofaRailway lateFailed = Scene.rich();
+            Check.unsupported("failing late", () -> Sofa.run(lateFailed, "9;cat 1;cat 1"));
+            outputOfRich("after a failed command", lateFailed);
         });
         holds(FIRST_DECIDES, () -> {
             SofaRailway x = new SofaRailway();
@@ -133,10 +140,12 @@ final class CommandCases extends Cases {
         });
     }
 
-    /** Everything after the error position has been made the same again. */
-    private static String withoutInput(SofaRailway x) {
-        Sofa.attempt(x, "");
-        return Sofa.everything(x);
+    /** The rich railway without a text that is begun. */
+    private static SofaRailway emptied() {
+        SofaRailway x = Scene.rich();
+        Sofa.run(x, "9");
+        x.undo();
+        return x;
     }
 
     private static void fails(SofaRailway x, String text, int command) {
@@ -210,7 +219,18 @@ final class CommandCases extends Cases {
             Sofa.attempt(x, "block 0");
             Check.missing("after a failed command", () -> x.errorPosition());
         });
-        changesNothing(Scene::settledBlocks, x -> x.errorPosition());
+        changesNothing(Scene::richUnkept, x -> x.errorPosition());
+        holds(CHANGES_NOTHING, () -> {
+            SofaRailway x = new SofaRailway();
+            Sofa.attempt(x, "tick 1;tick 0");
+            Check.missing("no error position", () -> x.errorPosition());
+            Check.same("the failed command", x.failedCommand(), 1);
+            SofaRailway rich = Scene.richUnkept();
+            Check.missing("no error position in a used one", () -> rich.errorPosition());
+            Check.same("the changes", rich.undoCount(), 2);
+            outputOfRich("then", rich);
+            inputOfRich("then", rich);
+        });
     }
 
     private void failedCommand() {
@@ -241,6 +261,17 @@ final class CommandCases extends Cases {
             Sofa.attempt(x, "block");
             Check.missing("after a malformed text", () -> x.failedCommand());
         });
-        changesNothing(Scene::settledBlocks, x -> x.failedCommand());
+        changesNothing(Scene::richUnkept, x -> x.failedCommand());
+        holds(CHANGES_NOTHING, () -> {
+            SofaRailway x = new SofaRailway();
+            Sofa.attempt(x, "tick");
+            Check.missing("no failed command", () -> x.failedCommand());
+            Check.same("the error position", x.errorPosition(), 4);
+            SofaRailway rich = Scene.richUnkept();
+            Check.missing("no failed command in a used one", () -> rich.failedCommand());
+            Check.same("the changes", rich.undoCount(), 2);
+            outputOfRich("then", rich);
+            inputOfRich("then", rich);
+        });
     }
 }

@@ -93,7 +93,9 @@ public final class CommandsTest {
         Check.no("51 not another one", z.hasCat(1) && z.hasCat(9));
     }
 
-    private static void fails(SofaRailway x, String text, int command) {
+    private static void fails(String text, int command) {
+        SofaRailway x = Sofa.line(-1, 1, -1, 1);
+        x.addTrain(0, 5);
         String before = Sofa.picture(x);
         Sofa.feed(x, text);
         Check.unsupported("51 " + text, () -> x.execute());
@@ -102,33 +104,31 @@ public final class CommandsTest {
     }
 
     private static void promise51FailingCommands() {
-        SofaRailway x = Sofa.line(-1, 1, -1, 1);
-        x.addTrain(0, 5);
-        fails(x, "block 0", 0);
-        fails(x, "cushion 0", 0);
-        fails(x, "link 0-1", 0);
-        fails(x, "link 2-2", 0);
-        fails(x, "link 0-99", 0);
-        fails(x, "train 0*5", 0);
-        fails(x, "train 1*0", 0);
-        fails(x, "train 14*1", 0);
-        fails(x, "goal 0>1", 0);
-        fails(x, "goal 0>0", 0);
-        fails(x, "goal 1>2", 0);
-        fails(x, "cat 0", 0);
-        fails(x, "cat 4", 0);
-        fails(x, "hold 0@2", 0);
-        fails(x, "hold 9@1", 0);
-        fails(x, "rescue 0", 0);
-        fails(x, "rescue 9", 0);
-        fails(x, "tick 0", 0);
-        fails(x, "tick 00", 0);
-        fails(x, "tick 51", 0);
-        fails(x, "tick 99", 0);
-        fails(x, "tick 50;tick 51", 1);
-        fails(x, "cat 1;cat 3;cat 1;cat 2", 2);
-        Check.same("51 the most ticks", Sofa.run(x, "tick 50"), 1);
-        fails(x, "goal 0>2;tick 5;goal 0>2", 2);
+        fails("block 0", 0);
+        fails("cushion 0", 0);
+        fails("link 0-1", 0);
+        fails("link 2-2", 0);
+        fails("link 0-99", 0);
+        fails("train 0*5", 0);
+        fails("train 1*0", 0);
+        fails("train 14*1", 0);
+        fails("goal 0>1", 0);
+        fails("goal 0>0", 0);
+        fails("goal 1>2", 0);
+        fails("cat 0", 0);
+        fails("cat 4", 0);
+        fails("hold 0@2", 0);
+        fails("hold 9@1", 0);
+        fails("rescue 0", 0);
+        fails("rescue 9", 0);
+        fails("tick 0", 0);
+        fails("tick 00", 0);
+        fails("tick 51", 0);
+        fails("tick 99", 0);
+        fails("tick 50;tick 51", 1);
+        fails("cat 1;cat 3;cat 1;cat 2", 2);
+        Check.same("51 the most ticks", Sofa.run(new SofaRailway(), "tick 50"), 1);
+        fails("goal 0>2;tick 5;goal 0>2", 2);
     }
 
     private static void error(String text, int position) {

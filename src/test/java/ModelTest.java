@@ -85,6 +85,10 @@ public final class ModelTest {
     }
 
     private boolean compare(Method method, Object[] arguments) throws Exception {
+        // What an object answers after its 512th call is free.
+        if (log.size() >= CALLS) {
+            return true;
+        }
         Method due = Model.class.getMethod(method.getName(), method.getParameterTypes());
         String got = outcome(method, railway, arguments);
         String wanted = outcome(due, model, arguments);

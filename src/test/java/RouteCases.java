@@ -144,10 +144,7 @@ final class RouteCases extends Cases {
             Check.missing("arrived", () -> x.nextBlock(0));
         });
         changesNothing(x -> x.nextBlock(3), x -> x.nextBlock(2));
-        holds(FIRST_DECIDES, () -> {
-            index("no next block, since no train", Scene::rich, x -> x.nextBlock(3));
-            index("nor below 0", Scene::rich, x -> x.nextBlock(-1));
-        });
+        trainIndexDecides((x, train) -> x.nextBlock(train));
     }
 
     private interface Parts {
@@ -183,6 +180,13 @@ final class RouteCases extends Cases {
         Check.same("crossed pairs", parts.of(pairs), 2);
         pairs.link(2, 3);
         Check.same("joined pairs", parts.of(pairs), 1);
+        Check.same("joined pairs, asked again", parts.of(pairs), 1);
+        SofaRailway crossed = Sofa.of(1, 1, 1, 1, 1);
+        Sofa.links(crossed, 0, 3, 3, 1, 1, 4, 4, 0);
+        Check.same("a ring over crossed indices, and one beside it", parts.of(crossed), 2);
+        Check.same("asked again", parts.of(crossed), 2);
+        crossed.link(4, 3);
+        Check.same("a link more inside the ring", parts.of(crossed), 2);
     }
 
     private void partCount() {
@@ -241,10 +245,7 @@ final class RouteCases extends Cases {
             Check.missing("cut off", () -> x.nearestCushion(0));
         });
         changesNothing(x -> x.nearestCushion(7), x -> x.nearestCushion(-1));
-        changesNothing(Scene::plainPart, x -> x.nearestCushion(7));
-        holds(FIRST_DECIDES, () -> {
-            index("no cushion, since no block", Scene::rich, x -> x.nearestCushion(7));
-            index("no cushions at all", Scene::fullBlocks, x -> x.nearestCushion(14));
-        });
+        changesNothing(Scene::usedBlocks, x -> x.nearestCushion(0));
+        blockIndexDecides((x, block) -> x.nearestCushion(block));
     }
 }

@@ -16,6 +16,28 @@ final class Scene {
      * changes that can be undone.
      */
     static SofaRailway rich() {
+        SofaRailway x = railway();
+        keepBoth(x);
+        finish(x);
+        return x;
+    }
+
+    /** The rich railway without an error position and a failed command. */
+    static SofaRailway richUnkept() {
+        SofaRailway x = railway();
+        finish(x);
+        return x;
+    }
+
+    /** The rich railway without a change that can be undone. */
+    static SofaRailway richUnchanged() {
+        SofaRailway x = rich();
+        x.save();
+        x.restore();
+        return x;
+    }
+
+    private static SofaRailway railway() {
         SofaRailway x = Sofa.of(-2, 3, 1, 4, -5, -1, 2);
         Sofa.links(x, 0, 1, 1, 2, 2, 3, 3, 4, 3, 6, 1, 6);
         x.addTrain(0, 5);
@@ -25,14 +47,81 @@ final class Scene {
         x.passTicks(1);
         x.addTrain(6, 7);
         x.putCat(2);
-        Sofa.attempt(x, "cat x");
-        Sofa.attempt(x, "cat 5;cat 5");
+        return x;
+    }
+
+    /** Keeps 5 as the error position and 1 as the failed command. */
+    private static void keepBoth(SofaRailway x) {
+        Sofa.attempt(x, "tick x");
+        Sofa.attempt(x, "tick 1;tick 0");
+    }
+
+    private static void finish(SofaRailway x) {
         x.writeTrain(1);
         x.save();
         x.restore();
         x.setGoal(0, 4);
         x.reserve(0, 1);
         Sofa.feed(x, "tick ");
+    }
+
+    /** An output, both kept numbers, a saved state, one change that can be undone, and a text that is begun. */
+    private static void use(SofaRailway x) {
+        keepBoth(x);
+        x.writeSignals();
+        x.save();
+        x.restore();
+        x.passTicks(1);
+        Sofa.feed(x, "tick ");
+    }
+
+    /** Fourteen blocks, in use. */
+    static SofaRailway usedBlocks() {
+        SofaRailway x = fullBlocks();
+        use(x);
+        return x;
+    }
+
+    /** Three blocks and no trains, in use. */
+    static SofaRailway usedTrainless() {
+        SofaRailway x = blocks(3);
+        use(x);
+        return x;
+    }
+
+    /** Six trains, in use. */
+    static SofaRailway usedTrains() {
+        SofaRailway x = fullTrains();
+        use(x);
+        return x;
+    }
+
+    /** No blocks, in use; a block is saved. */
+    static SofaRailway usedNothing() {
+        SofaRailway x = blocks(1);
+        keepBoth(x);
+        x.writeSignals();
+        x.save();
+        x.undo();
+        x.passTicks(1);
+        Sofa.feed(x, "tick ");
+        return x;
+    }
+
+    /** A railway in use, of which nothing is saved. */
+    static SofaRailway unsaved() {
+        SofaRailway x = Sofa.line(1, -1);
+        x.addTrain(0, 5);
+        keepBoth(x);
+        x.writeTrain(0);
+        Sofa.feed(x, "tick ");
+        return x;
+    }
+
+    /** The rich railway with sixty characters in the input buffer. */
+    static SofaRailway richFed() {
+        SofaRailway x = rich();
+        Sofa.feed(x, "1;tick 1;tick 1;tick 01;tick 01;tick 01;tick 01;tick 50");
         return x;
     }
 
@@ -56,22 +145,6 @@ final class Scene {
         return x;
     }
 
-    /** Fourteen blocks and no change that can be undone. */
-    static SofaRailway settledBlocks() {
-        SofaRailway x = fullBlocks();
-        x.save();
-        x.restore();
-        return x;
-    }
-
-    /** Six trains and no change that can be undone. */
-    static SofaRailway settledTrains() {
-        SofaRailway x = fullTrains();
-        x.save();
-        x.restore();
-        return x;
-    }
-
     /** Fourteen blocks of which each is linked with each. */
     static SofaRailway complete() {
         SofaRailway x = fullBlocks();
@@ -80,6 +153,16 @@ final class Scene {
                 x.link(first, second);
             }
         }
+        return x;
+    }
+
+    /** A line of 14 blocks; trains 0 and 1 are next to its ends and have reserved them. */
+    static SofaRailway reservedEnds() {
+        SofaRailway x = Sofa.line(1, 1, 1, 1, 1, 1, 1, 1, 1, 1, 1, 1, 1, 1);
+        x.addTrain(1, 5);
+        x.addTrain(12, 5);
+        x.reserve(0, 0);
+        x.reserve(1, 13);
         return x;
     }
 

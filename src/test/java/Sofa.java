@@ -66,7 +66,8 @@ final class Sofa {
         int trains = x.trainCount();
         for (int block = 0; block < blocks; block++) {
             text.append(x.length(block)).append(x.isCushion(block) ? 'C' : 'B').append(x.hasCat(block) ? 'c' : '-');
-            for (int other = 0; other < block; other++) {
+            boolean linked = x.degree(block) > 0;
+            for (int other = 0; linked && other < block; other++) {
                 text.append(x.areLinked(block, other) ? '1' : '0');
             }
             text.append(x.signal(block)).append(holder(x, block)).append(' ');
@@ -92,21 +93,30 @@ final class Sofa {
     }
 
     /**
-     * Everything that calls can show: the railway, the output, what was kept, the input, the changes that can be
-     * undone, and what was saved. The railway is not the same afterwards.
+     * Everything that calls can show: what was kept, the changes that can be undone, the input, the output, the
+     * railway, and what was saved. The railway is not the same afterwards. Calls that throw come as late as they can,
+     * since their own effects, if they had some, would hide others.
      */
     static String everything(SofaRailway x) {
-        StringBuilder text = new StringBuilder(picture(x));
-        text.append("\n  output ").append(wholeOutput(x));
-        text.append("\n  kept ").append(outcome(x::errorPosition)).append(' ').append(outcome(x::failedCommand));
+        StringBuilder text = new StringBuilder();
+        text.append("kept ").append(outcome(x::errorPosition)).append(' ').append(outcome(x::failedCommand));
         text.append("\n  undo ").append(x.undoCount());
-        text.append("\n  input ").append(outcome(() -> x.feed('9'))).append(' ').append(outcome(x::execute))
-                .append(' ').append(outcome(x::errorPosition)).append(' ').append(x.ticks());
+        text.append("\n  input ").append(input(x));
+        text.append("\n  output ").append(wholeOutput(x));
+        text.append("\n  railway ").append(picture(x));
         for (int left = x.undoCount(); left > 0; left--) {
             text.append("\n  undone ").append(x.undo()).append(' ').append(picture(x));
         }
         text.append("\n  restored ").append(outcome(x::restore)).append(' ').append(picture(x));
         return text.toString();
+    }
+
+    /** What the input and one more digit do, which is undone if it is a change. */
+    private static String input(SofaRailway x) {
+        String text = outcome(() -> x.feed('9')) + ' ' + outcome(x::execute) + ' ' + outcome(x::errorPosition)
+                + ' ' + x.ticks();
+        boolean changed = text.split(" ")[1].matches("[0-9]+");
+        return changed ? text + " undone " + x.undo() : text;
     }
 
     private static String wholeOutput(SofaRailway x) {

@@ -222,10 +222,19 @@ final class TermsCases extends Cases {
         });
     }
 
-    /** Trains in blocks 0 and 1 that both go through block 2 to the cushion 3. */
+    /** Trains in blocks 0 and 1 that both go through block 2 to the cushion 3, after a tick. */
     private static SofaRailway rivals(int first, int second) {
         SofaRailway x = Sofa.of(1, 1, 1, -1);
         Sofa.links(x, 0, 2, 1, 2, 2, 3);
+        return afterATick(x, first, second);
+    }
+
+    /** The same, but block 0 is behind block 1. */
+    private static SofaRailway chasing(int first, int second) {
+        return afterATick(Sofa.line(1, 1, 1, -1), first, second);
+    }
+
+    private static SofaRailway afterATick(SofaRailway x, int first, int second) {
         x.addTrain(0, first);
         x.addTrain(1, second);
         x.setGoal(0, 3);
@@ -242,20 +251,9 @@ final class TermsCases extends Cases {
             Check.same("a lower priority", rivals(9, 1).trainIn(2), 0);
             Check.same("equal priorities", rivals(5, 5).trainIn(2), 0);
             Check.same("and the other one waits", rivals(1, 9).waits(0), 1);
-            SofaRailway follow = Sofa.line(1, 1, 1, -1);
-            follow.addTrain(0, 5);
-            follow.addTrain(1, 6);
-            follow.setGoal(0, 3);
-            follow.setGoal(1, 3);
-            follow.passTicks(1);
-            Check.same("one after the other: the block is free by then", follow.blockOf(0), 1);
-            SofaRailway late = Sofa.line(1, 1, 1, -1);
-            late.addTrain(0, 6);
-            late.addTrain(1, 5);
-            late.setGoal(0, 3);
-            late.setGoal(1, 3);
-            late.passTicks(1);
-            Check.same("one after the other: the block is not free yet", late.blockOf(0), 0);
+            Check.same("one after the other: the block is free by then", chasing(5, 6).blockOf(0), 1);
+            Check.same("one after the other: the block is not free yet", chasing(6, 5).blockOf(0), 0);
+            Check.same("nor for equal priorities", chasing(5, 5).blockOf(0), 0);
         });
     }
 
@@ -300,14 +298,18 @@ final class TermsCases extends Cases {
         holds("Any other train with a goal tries to move to its next block.", () -> {
             SofaRailway x = Sofa.line(9, 1, -1);
             x.addTrain(0, 5);
+            x.setGoal(0, 2);
+            x.passTicks(1);
+            Check.same("with a goal it moves at once", x.blockOf(0), 1);
+            x.undo();
+            x.clearGoal(0);
             x.passTicks(1);
             Check.same("without a goal it stays", x.blockOf(0), 0);
             x.setGoal(0, 2);
             x.passTicks(1);
-            Check.same("with a goal it moves at once", x.blockOf(0), 1);
-            x.passTicks(1);
+            Check.same("with a goal again it moves", x.blockOf(0), 1);
             x.clearGoal(0);
-            x.passTicks(1);
+            x.passTicks(2);
             Check.same("without a goal it stays again", x.blockOf(0), 1);
             Check.same("and does not wait", x.waits(0), 0);
         });

@@ -184,10 +184,7 @@ final class TickCases extends Cases {
             Check.same("99 ticks after one", late.ticksUntilArrival(0), 99);
         });
         changesNothing(x -> x.ticksUntilArrival(3), x -> x.ticksUntilArrival(2), x -> x.ticksUntilArrival(0));
-        holds(FIRST_DECIDES, () -> {
-            index("no goal, since no train", Scene::rich, x -> x.ticksUntilArrival(3));
-            index("below 0", Scene::rich, x -> x.ticksUntilArrival(-1));
-        });
+        trainIndexDecides((x, train) -> x.ticksUntilArrival(train));
     }
 
     private void meanWaits() {
@@ -221,7 +218,7 @@ final class TickCases extends Cases {
             x.undo();
             Check.arithmetic("an undone train", () -> x.meanWaits());
         });
-        changesNothing(Scene::settledBlocks, x -> x.meanWaits());
+        changesNothing(Scene::usedTrainless, x -> x.meanWaits());
     }
 
     private void occupiedFraction() {
@@ -245,7 +242,7 @@ final class TickCases extends Cases {
             x.undo();
             Check.arithmetic("an undone block", () -> x.occupiedFraction());
         });
-        changesNothing(SofaRailway::new, x -> x.occupiedFraction());
+        changesNothing(Scene::usedNothing, x -> x.occupiedFraction());
     }
 
     private static void wrote(String what, SofaRailway x, int length, String due) {
@@ -290,6 +287,10 @@ final class TickCases extends Cases {
             zero.addTrain(1, 5);
             zero.setGoal(0, 0);
             wrote("the goal 0", zero, zero.writeTrain(0), "T0@1>0");
+            SofaRailway ten = Sofa.line(1, 1, 1, 1, 1, 1, 1, 1, 1, -1, -1);
+            ten.addTrain(10, 5);
+            ten.setGoal(0, 9);
+            wrote("the first block with two digits", ten, ten.writeTrain(0), "T0@10>9");
         });
         holds("Example: \"T0@4+3>12!\".", () -> {
             SofaRailway x = Sofa.of(1, 1, 1, 1, 3, 1, 1, 1, 1, 1, 1, 1, -1);

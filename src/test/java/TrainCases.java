@@ -82,7 +82,7 @@ final class TrainCases extends Cases {
         });
         changesNothing(x -> x.addTrain(7, 5), x -> x.addTrain(4, 0), x -> x.addTrain(4, 10), x -> x.addTrain(0, 5),
                 x -> x.addTrain(2, 5), x -> x.addTrain(1, 5));
-        changesNothing(Scene::settledTrains, x -> x.addTrain(6, 5));
+        changesNothing(Scene::usedTrains, x -> x.addTrain(6, 5));
         holds(FIRST_DECIDES, () -> {
             index("no block and priority 0", Scene::rich, x -> x.addTrain(7, 0));
             index("no block for a seventh train", Scene::fullTrains, x -> x.addTrain(7, 5));
@@ -226,20 +226,13 @@ final class TrainCases extends Cases {
             Check.missing("arrived", () -> arrived.clearGoal(0));
         });
         changesNothing(x -> x.clearGoal(3), x -> x.clearGoal(-1), x -> x.clearGoal(2));
-        holds(FIRST_DECIDES, () -> {
-            index("no goal, since no train", Scene::rich, x -> x.clearGoal(3));
-            index("below 0", Scene::rich, x -> x.clearGoal(-1));
-        });
+        trainIndexDecides((x, train) -> x.clearGoal(train));
     }
 
     private void reserve() {
         promise(26);
         holds("Reserves a block for a train.", () -> {
-            SofaRailway x = Sofa.line(1, 1, 1, 1, 1, 1, 1, 1, 1, 1, 1, 1, 1, 1);
-            x.addTrain(1, 5);
-            x.addTrain(12, 5);
-            x.reserve(0, 0);
-            x.reserve(1, 13);
+            SofaRailway x = Scene.reservedEnds();
             Check.same("the first block", x.reservedBy(0), 0);
             Check.same("the last block", x.reservedBy(13), 1);
             SofaRailway cat = Scene.rich();
@@ -329,11 +322,7 @@ final class TrainCases extends Cases {
             Check.same("another train can have the block", x.reserve(2, 1), 2);
         });
         holds("Returns the index of the block that was reserved.", () -> {
-            SofaRailway x = Sofa.line(1, 1, 1, 1, 1, 1, 1, 1, 1, 1, 1, 1, 1, 1);
-            x.addTrain(1, 5);
-            x.addTrain(12, 5);
-            x.reserve(0, 0);
-            x.reserve(1, 13);
+            SofaRailway x = Scene.reservedEnds();
             Check.same("the first block", x.cancelReservation(0), 0);
             x.unlink(12, 13);
             Check.same("the last block, linked no more", x.cancelReservation(1), 13);
@@ -351,10 +340,7 @@ final class TrainCases extends Cases {
             Check.missing("moved", () -> moved.cancelReservation(0));
         });
         changesNothing(x -> x.cancelReservation(3), x -> x.cancelReservation(-1), x -> x.cancelReservation(2));
-        holds(FIRST_DECIDES, () -> {
-            index("no reservation, since no train", Scene::rich, x -> x.cancelReservation(3));
-            index("below 0", Scene::rich, x -> x.cancelReservation(-1));
-        });
+        trainIndexDecides((x, train) -> x.cancelReservation(train));
     }
 
     /** Six trains, all derailed in the odd blocks of a railway of pairs. */
@@ -407,10 +393,7 @@ final class TrainCases extends Cases {
             Check.state("rescued before", () -> x.rescue(1));
         });
         changesNothing(x -> x.rescue(3), x -> x.rescue(-1), x -> x.rescue(0));
-        holds(FIRST_DECIDES, () -> {
-            index("not derailed, since no train", Scene::rich, x -> x.rescue(3));
-            index("below 0", Scene::rich, x -> x.rescue(-1));
-        });
+        trainIndexDecides((x, train) -> x.rescue(train));
     }
 
     private void trainCount() {
@@ -534,10 +517,7 @@ final class TrainCases extends Cases {
             Check.missing("cleared", () -> x.goal(0));
         });
         changesNothing(x -> x.goal(3), x -> x.goal(2));
-        holds(FIRST_DECIDES, () -> {
-            index("no goal, since no train", Scene::rich, x -> x.goal(3));
-            index("below 0", Scene::rich, x -> x.goal(-1));
-        });
+        trainIndexDecides((x, train) -> x.goal(train));
     }
 
     private void isDerailed() {
@@ -652,10 +632,7 @@ final class TrainCases extends Cases {
             Check.missing("no next block", () -> cut.blockedBy(0));
         });
         changesNothing(x -> x.blockedBy(3), x -> x.blockedBy(2));
-        holds(FIRST_DECIDES, () -> {
-            index("not blocked, since no train", Scene::rich, x -> x.blockedBy(3));
-            index("below 0", Scene::rich, x -> x.blockedBy(-1));
-        });
+        trainIndexDecides((x, train) -> x.blockedBy(train));
     }
 
     private interface Stuck {

@@ -63,7 +63,7 @@ final class UndoCases extends Cases {
             Check.argument("a refused change", () -> refused.passTicks(0));
             Check.state("is none", () -> refused.undo());
         });
-        changesNothing(Scene::settledBlocks, x -> x.undo());
+        changesNothing(Scene::richUnchanged, x -> x.undo());
         changesNothing(SofaRailway::new, x -> x.undo());
     }
 
@@ -98,18 +98,24 @@ final class UndoCases extends Cases {
     private void save() {
         promise(56);
         holds("Saves everything that changes can change, in place of what was saved before.", () -> {
-            SofaRailway x = Scene.rich();
-            String first = Sofa.picture(x);
-            x.save();
-            x.undo();
-            x.undo();
-            x.restore();
-            Check.same("everything", Sofa.picture(x), first);
-            x.passTicks(1);
-            String second = Sofa.picture(x);
-            x.save();
-            x.restore();
-            Check.same("in place of it", Sofa.picture(x), second);
+            int number = 0;
+            for (Call change : ChangeCases.changes()) {
+                SofaRailway x = Scene.rich();
+                x.save();
+                change.on(x);
+                String changed = Sofa.picture(x);
+                x.save();
+                x.undo();
+                x.restore();
+                Check.same("in place of what was saved before change " + number, Sofa.picture(x), changed);
+                number++;
+            }
+            SofaRailway waiting = Scene.jammedRing(3);
+            waiting.passTicks(3);
+            waiting.save();
+            waiting.passTicks(4);
+            waiting.restore();
+            Check.same("the waits too", waiting.waits(2), 3);
             SofaRailway empty = Scene.blocks(1);
             empty.save();
             empty.undo();
@@ -131,18 +137,25 @@ final class UndoCases extends Cases {
     private void restore() {
         promise(57);
         holds("Restores what was saved last, which stays saved.", () -> {
-            SofaRailway x = Scene.rich();
-            String saved = Sofa.picture(x);
-            x.save();
-            for (int time = 0; time < 2; time++) {
-                x.clearGoal(0);
-                x.cancelReservation(0);
-                x.passTicks(3);
+            int number = 0;
+            for (Call change : ChangeCases.changes()) {
+                SofaRailway x = Scene.rich();
+                String saved = Sofa.picture(x);
+                x.save();
+                change.on(x);
                 x.restore();
-                Check.same("time " + time, Sofa.picture(x), saved);
+                Check.same("after change " + number, Sofa.picture(x), saved);
+                Sofa.feed(x, "tick ");
+                change.on(x);
+                x.restore();
+                Check.same("again after change " + number, Sofa.picture(x), saved);
+                number++;
             }
-            x.restore();
-            Check.same("at once again", Sofa.picture(x), saved);
+            SofaRailway twice = ticked(3);
+            twice.save();
+            twice.restore();
+            twice.restore();
+            Check.same("at once again", twice.ticks(), 6);
         });
         holds("Afterwards no change can be undone.", () -> {
             SofaRailway x = ticked(9);
@@ -175,7 +188,7 @@ final class UndoCases extends Cases {
             x.save();
             Check.same("nothing is saved, but saved", x.restore(), 0);
         });
-        changesNothing(() -> ticked(3), x -> x.restore());
+        changesNothing(Scene::unsaved, x -> x.restore());
         changesNothing(SofaRailway::new, x -> x.restore());
     }
 }

@@ -1,81 +1,13 @@
-import java.util.ArrayList;
-import java.util.List;
-
-/** Promises 54 to 57: undo and the saved state; and that a call that throws changes nothing. */
+/** Promises 54 to 57: undo and the saved state. */
 public final class UndoTest {
     public static void main(String[] args) {
-        promise54EachChange();
         promise54Limit();
         promise54AfterNewChanges();
         promise54Waits();
         promise54KeepsInput();
         promise55UndoCount();
         promise56And57SaveAndRestore();
-        promise57Everything();
-        throwingCallsChangeNothing();
         Check.finish();
-    }
-
-    private interface Change {
-        int on(SofaRailway x);
-    }
-
-    private static List<Change> changes() {
-        List<Change> changes = new ArrayList<>();
-        changes.add(x -> x.addBlock(7));
-        changes.add(x -> x.addCushion(7));
-        changes.add(x -> x.link(0, 2));
-        changes.add(x -> x.unlink(2, 3));
-        changes.add(x -> x.putCat(3));
-        changes.add(x -> x.removeCat(1));
-        changes.add(x -> x.addTrain(5, 9));
-        changes.add(x -> x.setGoal(1, 2));
-        changes.add(x -> x.clearGoal(0));
-        changes.add(x -> x.reserve(1, 5));
-        changes.add(x -> x.cancelReservation(0));
-        changes.add(x -> x.rescue(2));
-        changes.add(x -> x.passTicks(9));
-        changes.add(x -> {
-            Sofa.feed(x, "block 3;cat 5;tick 4");
-            return x.execute();
-        });
-        return changes;
-    }
-
-    /** A railway on which each of the changes is possible. */
-    private static SofaRailway rich() {
-        SofaRailway x = Sofa.line(-2, 3, -4, 1, 2, -3, -1, 1);
-        x.addTrain(0, 8);
-        x.addTrain(4, 6);
-        x.addTrain(7, 4);
-        x.putCat(6);
-        x.setGoal(2, 6);
-        x.passTicks(1);
-        x.setGoal(0, 2);
-        x.putCat(1);
-        x.reserve(0, 1);
-        x.save();
-        x.restore();
-        return x;
-    }
-
-    private static void promise54EachChange() {
-        int number = 0;
-        for (Change change : changes()) {
-            SofaRailway x = rich();
-            String before = Sofa.picture(x);
-            Check.same("55 none before change " + number, x.undoCount(), 0);
-            change.on(x);
-            String after = Sofa.picture(x);
-            Check.no("54 change " + number + " changes something", after.equals(before));
-            Check.same("55 one after change " + number, x.undoCount(), 1);
-            Check.same("54 undo of change " + number, x.undo(), 0);
-            Check.same("54 as before change " + number, Sofa.picture(x), before);
-            Check.state("54 nothing left after change " + number, () -> x.undo());
-            change.on(x);
-            Check.same("54 change " + number + " again", Sofa.picture(x), after);
-            number++;
-        }
     }
 
     private static void promise54Limit() {
@@ -216,37 +148,5 @@ public final class UndoTest {
         Check.same("54 no waits", x.waits(0), 0);
         x.restore();
         Check.same("57 three waits", x.waits(0), 3);
-    }
-
-    private static void promise57Everything() {
-        SofaRailway x = rich();
-        String before = Sofa.picture(x);
-        x.save();
-        for (Change change : changes()) {
-            change.on(x);
-            x.restore();
-            Check.same("57 everything", Sofa.picture(x), before);
-        }
-    }
-
-    private static void throwingCallsChangeNothing() {
-        SofaRailway x = rich();
-        String before = Sofa.picture(x);
-        Check.argument("addBlock", () -> x.addBlock(0));
-        Check.argument("addCushion", () -> x.addCushion(10));
-        Check.state("link", () -> x.link(0, 1));
-        Check.missing("unlink", () -> x.unlink(0, 2));
-        Check.state("putCat", () -> x.putCat(1));
-        Check.missing("removeCat", () -> x.removeCat(0));
-        Check.unsupported("addTrain", () -> x.addTrain(1, 3));
-        Check.argument("setGoal", () -> x.setGoal(0, 1));
-        Check.unsupported("setGoal", () -> x.setGoal(0, 0));
-        Check.missing("clearGoal", () -> x.clearGoal(1));
-        Check.state("reserve", () -> x.reserve(0, 1));
-        Check.missing("cancelReservation", () -> x.cancelReservation(1));
-        Check.state("rescue", () -> x.rescue(0));
-        Check.argument("passTicks", () -> x.passTicks(0));
-        Check.same("all of them change nothing", Sofa.picture(x), before);
-        Check.same("and count nothing", x.undoCount(), 0);
     }
 }
