@@ -6,13 +6,28 @@ import java.util.LinkedHashMap;
 import java.util.List;
 import java.util.Map;
 
-/** The sentences of the document, section by section, without the signatures and the parameters. */
+/** The document: its public face, and its sentences, section by section. */
 final class Document {
     private static final Path FILE = Path.of("../shared/DOC.md");
 
     private Document() {
     }
 
+    /** The methods of the public face, each with its types and exceptions: "int link(int,int) OneException Another". */
+    static List<String> face() throws IOException {
+        List<String> face = new ArrayList<>();
+        for (String line : Files.readAllLines(FILE)) {
+            if (line.matches("    public \\w+ \\w+\\(.*;")) {
+                String[] parts = line.strip().replace("public ", "").split("[();]", -1);
+                String types = parts[1].replaceAll("(\\w+) \\w+", "$1").replace(", ", ",");
+                String exceptions = parts[2].replace(" throws", "").replace(",", "");
+                face.add(parts[0] + "(" + types + ")" + exceptions);
+            }
+        }
+        return face;
+    }
+
+    /** The sentences, without the signatures and the parameters. */
     static Map<String, List<String>> sections() throws IOException {
         Map<String, List<String>> sections = new LinkedHashMap<>();
         for (String section : Files.readString(FILE).split("(?m)^## ")) {

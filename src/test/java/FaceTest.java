@@ -1,76 +1,21 @@
+import java.io.IOException;
 import java.lang.reflect.Constructor;
 import java.lang.reflect.Field;
 import java.lang.reflect.Method;
 import java.lang.reflect.Modifier;
+import java.util.List;
 import java.util.Set;
 import java.util.TreeSet;
 
 /** The public face is the document's, and LANGUAGE.md's rule 1 on members and names holds. */
 public final class FaceTest {
-    private static final String FACE = """
-            int addBlock(int) IllegalArgumentException IllegalStateException
-            int addCushion(int) IllegalArgumentException IllegalStateException
-            int link(int,int) IndexOutOfBoundsException IllegalArgumentException IllegalStateException
-            int unlink(int,int) IndexOutOfBoundsException NoSuchElementException
-            int putCat(int) IndexOutOfBoundsException IllegalStateException UnsupportedOperationException
-            int removeCat(int) IndexOutOfBoundsException NoSuchElementException
-            int blockCount()
-            int length(int) IndexOutOfBoundsException
-            boolean isCushion(int) IndexOutOfBoundsException
-            boolean hasCat(int) IndexOutOfBoundsException
-            boolean areLinked(int,int) IndexOutOfBoundsException
-            int degree(int) IndexOutOfBoundsException
-            int trainIn(int) IndexOutOfBoundsException NoSuchElementException
-            int reservedBy(int) IndexOutOfBoundsException NoSuchElementException
-            char signal(int) IndexOutOfBoundsException
-            int distance(int,int) IndexOutOfBoundsException NoSuchElementException
-            int distanceByRounds(int,int) IndexOutOfBoundsException NoSuchElementException
-            int nextBlock(int) IndexOutOfBoundsException NoSuchElementException
-            int partCount()
-            int partCountByUnions()
-            int nearestCushion(int) IndexOutOfBoundsException NoSuchElementException
-            int addTrain(int,int) IndexOutOfBoundsException IllegalArgumentException IllegalStateException \
-            UnsupportedOperationException
-            int setGoal(int,int) IndexOutOfBoundsException IllegalArgumentException UnsupportedOperationException \
-            NoSuchElementException
-            int clearGoal(int) IndexOutOfBoundsException NoSuchElementException
-            int reserve(int,int) IndexOutOfBoundsException IllegalArgumentException IllegalStateException \
-            UnsupportedOperationException
-            int cancelReservation(int) IndexOutOfBoundsException NoSuchElementException
-            int rescue(int) IndexOutOfBoundsException IllegalStateException
-            int trainCount()
-            int blockOf(int) IndexOutOfBoundsException
-            int priority(int) IndexOutOfBoundsException
-            int remainingTicks(int) IndexOutOfBoundsException
-            int goal(int) IndexOutOfBoundsException NoSuchElementException
-            boolean isDerailed(int) IndexOutOfBoundsException
-            int waits(int) IndexOutOfBoundsException
-            int trainByPriority(int) NoSuchElementException
-            int blockedBy(int) IndexOutOfBoundsException NoSuchElementException
-            int deadlocked()
-            int deadlockedByTable()
-            int passTicks(int) IllegalArgumentException
-            int ticks()
-            int arrivals()
-            int ticksUntilArrival(int) IndexOutOfBoundsException NoSuchElementException
-            double meanWaits() ArithmeticException
-            float occupiedFraction() ArithmeticException
-            int writeTrain(int) IndexOutOfBoundsException
-            int writeSignals()
-            char outputCharacter(int) IndexOutOfBoundsException
-            boolean isConsistent()
-            int feed(char) IllegalStateException
-            int execute() IllegalArgumentException UnsupportedOperationException
-            int errorPosition() NoSuchElementException
-            int failedCommand() NoSuchElementException
-            int undo() IllegalStateException
-            int undoCount()
-            int save()
-            int restore() IllegalStateException
-            """;
+    private FaceTest() {
+    }
 
-    public static void main(String[] args) {
-        Set<String> due = new TreeSet<>(FACE.lines().toList());
+    public static void main(String[] args) throws IOException {
+        List<String> face = Document.face();
+        Check.same("the calls of the document", face.size(), 56);
+        Set<String> due = new TreeSet<>(face);
         Set<String> got = new TreeSet<>();
         Set<String> names = new TreeSet<>();
         for (Method method : SofaRailway.class.getDeclaredMethods()) {
